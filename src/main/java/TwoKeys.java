@@ -1255,11 +1255,21 @@ public final class TwoKeys {
         }
 
         int howMany() {
-            return rowsFrom(0, 0);
+            return hasHomeless() ? 0 : rowsFrom(0, 0);
         }
 
         boolean isAny() {
-            return anyFrom(0, 0);
+            return !hasHomeless() && anyFrom(0, 0);
+        }
+
+        // without this a last chest that fits nowhere would be found out row by row
+        private boolean hasHomeless() {
+            for (int chest = 0; chest < chests; chest++) {
+                if (may[chest] == 0) {
+                    return true;
+                }
+            }
+            return false;
         }
 
         /** How many rows there are for the chests from one on; barred: pairs of those who hold most. */

@@ -88,14 +88,34 @@ public final class PlainTest {
         for (int i = 0; i < chests; i++) {
             call("chest", upTo(5), upTo(999));
         }
-        int speaking = random.nextInt(16);
-        for (int i = 0; i < speaking; i++) {
-            call("speak", upTo(n - 1), upTo(n - 1), upTo(random.nextBoolean() ? 1 : 13));
+        if (run % 3 == 0) {
+            talkative();
+        } else {
+            int speaking = random.nextInt(16);
+            for (int i = 0; i < speaking; i++) {
+                call("speak", upTo(n - 1), upTo(n - 1), upTo(random.nextBoolean() ? 1 : 13));
+            }
+        }
+        for (int chest = 0; chest < chests; chest++) {
+            call("lay", chest, upTo(n - 1), upTo(n - 1));
         }
         for (int i = 0; i < 120 && isRight; i++) {
             step();
         }
         whole();
+    }
+
+    /** Nearly all speak: there are seldom layings, so that quarrels matter. */
+    private void talkative() {
+        for (int b = 1; b < n; b++) {
+            for (int a = 0; a < b; a++) {
+                call("speak", a, b, random.nextInt(30) == 0 ? 13 : upTo(2));
+            }
+        }
+        call("set", 0, 0, upTo(3));
+        for (int what = 0; what < 2; what++) {
+            call("quarrel", what);
+        }
     }
 
     private void step() {
@@ -173,8 +193,24 @@ public final class PlainTest {
             case 0: call("sheet", about(3), upTo(3) - 1, about(40)); break;
             case 1: call("sheet", about(3), about(2), about(40)); break;
             case 2: call("cell", about(3), about(20), about(14)); break;
-            default: call("copy", about(3), about(10), about(3), about(10), about(10)); break;
+            default: copy(); break;
         }
+    }
+
+    private void copy() {
+        int sheet = upTo(3);
+        int other = upTo(3);
+        if (random.nextInt(3) > 0) {
+            int sort = upTo(2);
+            call("sheet", other, sort, 5 + upTo(8));
+            call("sheet", sheet, sort, 6);
+            for (int i = 0; i < 6; i++) {
+                call("cell", sheet, i, i % 3 == 2 ? upTo(13) : upTo(n - 1));
+            }
+            call("copy", sheet, upTo(3), other, upTo(5), upTo(4));
+            call("speaks", other, sort, 0, 2);
+        }
+        call("copy", about(3), about(10), about(3), about(10), about(10));
     }
 
     private void speaks() {
@@ -204,8 +240,14 @@ public final class PlainTest {
         StringBuilder s = new StringBuilder();
         for (String key : new String[] {"may", "costs", "fears"}) {
             s.append(key).append(' ');
-            either(s, 3);
+            if (key.equals("may") && random.nextInt(3) == 0) {
+                s.append("1 or ");
+            }
+            either(s, 2);
             s.append(';');
+        }
+        if (s.length() > 160 && random.nextInt(5) > 0) {
+            return;
         }
         if (random.nextInt(3) == 0) {
             mar(s);
