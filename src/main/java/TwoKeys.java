@@ -50,8 +50,7 @@ public final class TwoKeys {
     private final Town trial = new Town();
     private boolean isKept = false;
     private final Law law = new Law();
-    private final Tape tape = new Tape();
-    private final Reader reader = new Reader(tape);
+    private final Reader reader = new Reader();
     private final Layings layings = new Layings();
     private final Sheet[] sheets = new Sheet[SHEETS];
 
@@ -178,7 +177,7 @@ public final class TwoKeys {
         if (letter < 0 || letter > 255) {
             return BAD;
         }
-        return tape.append(letter) ? tape.size : FULL;
+        return reader.tape.append(letter) ? reader.tape.size : FULL;
     }
 
     public int text() {
@@ -186,7 +185,7 @@ public final class TwoKeys {
             return FULL;
         }
         int fault = reader.read();
-        tape.size = 0;
+        reader.tape.size = 0;
         if (fault != NONE) {
             return FAULT_BASE - fault;
         }
@@ -520,7 +519,7 @@ public final class TwoKeys {
             case 2: return now.month;
             case 3: return now.most;
             case 4: return law.textCount;
-            case 5: return tape.size;
+            case 5: return reader.tape.size;
             case 6: return now.rule;
             case 7: return now.speakingPairs();
             default: return BAD;
@@ -1064,16 +1063,12 @@ public final class TwoKeys {
      * written any more, so every method comes back at once.
      */
     static final class Reader {
-        private final Tape tape;
+        final Tape tape = new Tape();
         private final int[] code = new int[TAPE_ROOM];
         private final int[] ends = new int[PARTS];
         private int size = 0;
         private int open = 0;
         private int fault = NONE;
-
-        Reader(Tape tape) {
-            this.tape = tape;
-        }
 
         /** The place of the fault, or NONE. */
         int read() {

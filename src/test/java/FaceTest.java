@@ -80,6 +80,7 @@ public final class FaceTest {
             Check.holds(c + " has few fields", fields <= 20);
             for (Method m : c.getDeclaredMethods()) {
                 Check.holds(m + " has few parameters", m.getParameterCount() <= 7);
+                Check.holds(m + " has a name of its own", !FACE.contains(" " + m.getName() + "("));
             }
         }
         for (Field f : TwoKeys.class.getDeclaredFields()) {

@@ -293,6 +293,8 @@ public final class PromisesTest {
         due("order of parts", read("costs 1;may 1;fears 1;"), -100);
         due("a part is missing", read("may 1;fears 1;"), -106);
         due("unknown word", read("may 1 + gold;costs 1;fears 1;"), -108);
+        due("z is a letter, too", read("may onez;costs 1;fears 1;"), -104);
+        due("a is a letter, too", read("may 1ora;costs 1;fears 1;"), -105);
         due("a key is no name", read("may 1 + may;costs 1;fears 1;"), -108);
         due("four digits", read("may 0001+9999;costs 1;fears 1;"), 1);
         due("five digits", read("may 1+00001;costs 1;fears 1;"), -106);
@@ -670,6 +672,12 @@ public final class PromisesTest {
         y.chest(0, 0);
         y.lay(0, 0, 1);
         due("texts know the month", y.in(4) * 1000 + y.in(5) * 100 + y.in(7) * 10 + y.in(12), 101);
+        TwoKeys far = ruled("may far=9;costs 1;fears 1;");
+        far.chest(0, 0);
+        far.lay(0, 0, 2);
+        far.speak(0, 1, 3);
+        far.speak(1, 2, 6);
+        due("ways are told by that month", far.in(5) * 10 + far.in(6), 1);
         for (int b : new int[] {-1, 13, LEAST, GREATEST}) refused("in " + b, z -> z.in(b), BAD);
     }
 
@@ -886,6 +894,13 @@ public final class PromisesTest {
             if ((z >>> 9) % 14 > 3) free++;
         }
         due("each pair", x.drawn(77), free * free);
+        TwoKeys far = ruled("may far=9;costs 1;fears 1;");
+        far.people(3);
+        far.chest(0, 0);
+        far.set(0, 0, 12);
+        int ways = 0;
+        for (int seed = 0; seed < 40; seed++) ways += far.drawn(seed) == 0 ? 1 : 0;
+        Check.holds("ways are drawn, too", ways > 30);
         due("any seed", x.drawn(LEAST) >= 0 && x.drawn(GREATEST) >= 0 ? 1 : 0, 1);
     }
 
@@ -990,6 +1005,11 @@ public final class PromisesTest {
         due("speaks", x.speaks(1, 1, 0, 1), 1);
         x.sheet(1, 1, 3);
         due("all 0: nobody and himself", x.speaks(1, 1, 0, 1), 0);
+        x.chest(0, 0);
+        fill(x, 1, 0, 9);
+        due("a row of one", x.place(1), 9);
+        x.sheet(1, 0, 1);
+        due("all 0", x.place(1), 0);
         int[][] bad = {{-1, 0, 0}, {4, 0, 0}, {0, 3, 0}, {0, -2, 0}, {0, 0, 41}, {0, 0, GREATEST}, {4, 0, -1}, {0, 3, -1},
             {LEAST, 0, 0}, {4, -1, 0}};
         for (int[] b : bad) refused("sheet", y -> y.sheet(b[0], b[1], b[2]), BAD);
