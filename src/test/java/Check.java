@@ -2,14 +2,23 @@
 final class Check {
     private static int wrong = 0;
     private static int asked = 0;
+    private static String about = "";
 
     private Check() { }
+
+    /** What the next answers stand for; it is printed with a wrong one. */
+    static void about(String sentence) {
+        about = sentence;
+    }
 
     static void due(String call, long got, long want) {
         asked++;
         if (got != want) {
             wrong++;
             System.out.println(call + " answered " + got + ", due is " + want);
+            if (!about.isEmpty()) {
+                System.out.println("    " + about);
+            }
         }
     }
 
