@@ -38,9 +38,17 @@ abstract class Edge {
 
     static final Town NEW = x -> { };
 
-    /** Something stands everywhere, and nothing is full. */
-    static final Town LIVED = x -> {
+    /** A text more, something on the tape, sheets of each sort and one that is missing; no image. */
+    static final Town FURNISHED = x -> {
         read(x, "may not one=3;costs one+1;fears other*9;");
+        feed(x, "may one<2;co");
+        sheet(x, 0, 0, 0, 3, 1, 1);
+        sheet(x, 1, 2, 4, 0, 9, 0, 1, 2);
+        sheet(x, 2, 1, 1, 0, 13);
+    };
+
+    /** Something stands everywhere, and nothing is full. */
+    static final Town LIVED = FURNISHED.then(x -> {
         x.chest(1, 123);
         x.speak(0, 4, 1);
         x.lay(0, 2, 4);
@@ -59,17 +67,19 @@ abstract class Edge {
         x.speak(1, 2, 2);
         x.lay(0, 0, 2);
         x.lay(1, 3, 2);
-        feed(x, "may one<2;co");
-        sheet(x, 0, 0, 0, 3, 1, 1);
-        sheet(x, 1, 2, 4, 0, 9, 0, 1, 2);
-        sheet(x, 2, 1, 1, 0, 13);
-    };
+    });
 
     /** Chests and texts are full, and so is the tape. */
     static final Town CROWDED = x -> {
         for (int i = 0; i < 5; i++) read(x, PLAIN_TEXT);
+        sheet(x, 0, 0, 0, 3, 1, 1);
+        sheet(x, 1, 2, 4, 0, 9, 0, 1, 2);
+        sheet(x, 2, 1, 1, 0, 13);
+        x.chest(0, 505);
+        x.lay(0, 1, 3);
+        x.image();
         x.people(6);
-        for (int kind = 0; kind < 4; kind++) x.chest(kind, 505 + kind);
+        for (int kind = 1; kind < 4; kind++) x.chest(kind, 505 + kind);
         x.lay(1, 0, 5);
         x.speak(0, 5, 0);
         for (int i = 0; i < 160; i++) x.feed(32);
@@ -84,16 +94,23 @@ abstract class Edge {
         x.lay(0, 0, 3);
     };
 
-    /** All speak, so there are no layings; there is no image. */
-    static final Town STUCK = x -> {
-        x.people(3);
+    /** All speak, so there are no layings. */
+    static final Town STUCK = FURNISHED.then(x -> {
         x.chest(0, 100);
+        x.speak(0, 4, 1);
+        x.lay(0, 2, 4);
+        x.set(0, 0, 7);
+        x.force(1);
+        x.image();
+        x.set(0, 0, 0);
+        x.force(0);
+        x.people(3);
         x.chest(1, 201);
         for (int b = 1; b < 3; b++) for (int a = 0; a < b; a++) x.speak(a, b, 0);
         x.lay(0, 0, 1);
         x.lay(1, 1, 2);
         x.set(1, 0, 1);
-    };
+    });
 
     static TwoKeys made(Town town) {
         TwoKeys x = new TwoKeys();
@@ -229,12 +246,13 @@ abstract class Edge {
         }
     }
 
+    /** What could be refused comes late, so that a refusal that changes something shows ahead of it. */
     private static void tellSheets(TwoKeys x, StringBuilder s) {
-        for (int sheet = 0; sheet < 4; sheet++) {
+        for (int sheet = 3; sheet >= 0; sheet--) {
+            for (int n = 0; n <= 41; n++) say(s, x.copy(sheet, 0, sheet, 0, n));
+            for (int sort = 0; sort < 3; sort++) say(s, x.speaks(sheet, sort, 0, 0));
             say(s, x.judge(sheet));
             say(s, x.place(sheet));
-            for (int sort = 0; sort < 3; sort++) say(s, x.speaks(sheet, sort, 0, 0));
-            for (int n = 0; n <= 41; n++) say(s, x.copy(sheet, 0, sheet, 0, n));
         }
     }
 

@@ -393,6 +393,8 @@ final class EdgesOfBands extends Edge {
                 range(plain(3, chests), "band of " + chests, (x, set) -> x.band(set, w), 0, (1 << chests) - 1, BAD);
             }
         }
+        range(LIVED, "band", (x, set) -> x.band(set, 0), 0, 3, BAD);
+        range(LIVED, "band what", (x, what) -> x.band(3, what), 0, 2, BAD);
         range(LINE, "band what", (x, what) -> x.band(7, what), 0, 2, BAD);
         range(NEW, "band what", (x, what) -> x.band(0, what), 0, 2, BAD);
         refused(LINE, "BAD is named ahead of NONE", x -> x.band(8, 3), BAD);
@@ -413,6 +415,8 @@ final class EdgesOfBands extends Edge {
         range(sheets.then(x -> x.sheet(2, 1, 2)), "judge", (x, s) -> x.judge(s), 0, 3, BAD);
         asks(NEW, "missing", x -> x.judge(0), NOTHING);
         asks(LIVED, "missing", x -> x.judge(3), NOTHING);
+        for (int s : new int[] {-1, 4, LEAST, GREATEST}) refused(LIVED, "no such SHEET", x -> x.judge(s), BAD);
+        refused(LIVED, "odd", x -> x.judge(2), BAD);
         asks(LIVED, "row 1 is 1, 1", x -> x.judge(0), NONE);
         asks(LIVED, "row 0 is 4, 0", x -> x.judge(1), 0);
         for (int size : new int[] {1, 3, 39}) {
@@ -436,6 +440,11 @@ final class EdgesOfBands extends Edge {
         asks(sheets, "chest 1 may be laid on pair 0", x -> x.place(0), 0);
         asks(NEW, "missing", x -> x.place(0), NOTHING);
         asks(LIVED, "missing", x -> x.place(3), NOTHING);
+        for (int s : new int[] {-1, 4, LEAST, GREATEST}) refused(LIVED, "no such SHEET", x -> x.place(s), BAD);
+        for (int s = 0; s < 3; s++) {
+            int other = s;
+            refused(LIVED, "another size", x -> x.place(other), BAD);
+        }
         for (int chests = 0; chests <= 4; chests++) {
             for (int size : new int[] {chests - 1, chests + 1, 40}) {
                 if (size < 0) continue;
@@ -528,8 +537,14 @@ final class EdgesOfBands extends Edge {
     private static void back() {
         Doc.says("`int back()`: All that it keeps is as in THE IMAGE: PEOPLE. STATE: there is none.");
         refused(NEW, "there is none", x -> x.back(), STATE);
-        refused(STUCK, "there is none", x -> x.back(), STATE);
-        refused(CROWDED, "there is none", x -> x.back(), STATE);
+        refused(FURNISHED, "there is none", x -> x.back(), STATE);
+        refused(FURNISHED.then(x -> {
+            x.chest(1, 12);
+            x.chest(2, 34);
+            x.speak(0, 2, 0);
+            x.lay(0, 0, 1);
+            x.set(0, 0, 3);
+        }), "there is none", x -> x.back(), STATE);
         TwoKeys x = made(LIVED);
         due("people", x.back(), 5);
         int[] counts = {5, 1, 7, 5, 2, 12, 1, 1};

@@ -144,6 +144,9 @@ final class EdgesOfHost extends Edge {
         range(pair, "j, none of them", (x, j) -> x.copy(0, 4, 1, j, 0), 0, 3, OUTSIDE);
         range(NEW.then(x -> x.sheet(0, 2, 0)), "n of size 0", (x, n) -> x.copy(0, 0, 0, 0, n), 0, 0, OUTSIDE);
         range(NEW.then(x -> x.sheet(0, 2, 40)), "n of 40", (x, n) -> x.copy(0, 0, 0, 0, n), 0, 40, OUTSIDE);
+        refused(LIVED, "i", x -> x.copy(0, 3, 0, 0, 2), OUTSIDE);
+        refused(LIVED, "j", x -> x.copy(1, 0, 1, 4, 3), OUTSIDE);
+        refused(LIVED, "n", x -> x.copy(2, 0, 2, 0, -1), OUTSIDE);
         // sums that would wrap
         refused(pair, "i and n", x -> x.copy(0, GREATEST, 1, 0, GREATEST), OUTSIDE);
         refused(pair, "i and n", x -> x.copy(0, 1, 1, 0, GREATEST), OUTSIDE);
@@ -299,6 +302,9 @@ final class EdgesOfHost extends Edge {
                 int m = n;
                 refused(six, "the first is outside", x -> x.speaks(0, 2, from, m), OUTSIDE);
             }
+        }
+        for (int from : new int[] {-1, 2, 4, LEAST, GREATEST}) {
+            refused(LIVED, "the first is outside", x -> x.speaks(0, 0, from, 1), OUTSIDE);
         }
         asks(six, "no place is asked", x -> x.speaks(0, 2, 6, 0), 0);
         // beside what stood ahead nothing changed

@@ -253,6 +253,13 @@ final class EdgesOfLayings extends Edge {
         asks(STUCK, "no layings", x -> x.lawful(1), 0);
         asks(STUCK, "two of 1", x -> x.lawful(2), 2);
         asks(plain(6, 4), "all rows", x -> x.lawful(1), 50625);
+        for (int p = 0; p < 6; p++) {
+            TwoKeys one = made(plain(6, 4));
+            for (int chest = 0; chest < 4; chest++) one.lay(chest, p, (p + 1 + chest) % 6);
+            due("all by " + p, one.lawful(2), 4);
+            one.set(1, 0, 3);
+            due("more than most by " + p, one.lawful(0), 0);
+        }
         TwoKeys x = made(plain(6, 4));
         due("nobody holds", x.lawful(2), 0);
         for (int chest = 0; chest < 4; chest++) {

@@ -51,6 +51,11 @@ final class EdgesOfMonths extends Edge {
             x.lay(0, 0, 1);
             x.lay(1, 0, 1);
         })), 1, 2);
+        // 0 and 1 would have no way any more, 2 and 3 would have one over 1: costs don't know that
+        TwoKeys ways = made(ruled("may one+1=other and not one=1;costs far;fears 1;").then(plain(4, 1)));
+        ways.speak(0, 1, 0);
+        for (int b = 2; b < 4; b++) for (int a = 1; a < b; a++) ways.speak(a, b, 0);
+        quarrelIs("like costs, as all is now: the first", ways, 0, 0);
         // who will speak later does not speak, and so can't quarrel
         TwoKeys later = made(talkers("may one=0;costs other;fears 1;", 3, 1));
         later.speak(0, 1, 1);
@@ -150,6 +155,15 @@ final class EdgesOfMonths extends Edge {
             rule.set(0, 0, now);
             due("first from " + now, rule.first(), firsts[now]);
             due("in " + now, rule.in(now), now == 5 || now == 12 ? 1 : 0);
+        }
+        TwoKeys far = made(ruled("may far=9;costs 1;fears 1;").then(plain(3, 1)));
+        far.speak(0, 1, 3);
+        far.speak(1, 2, 6);
+        far.lay(0, 0, 2);
+        for (int now = 0; now <= 12; now++) {
+            far.set(0, 0, now);
+            for (int month = 0; month <= 12; month++) due("ways as they were in " + month, far.in(month), month >= 6 ? 1 : 0);
+            due("the first month with a way", far.first(), Math.max(6, now));
         }
         TwoKeys early = made(ruled("may 0<month;costs 1;fears 1;").then(plain(2, 1)));
         early.lay(0, 0, 1);

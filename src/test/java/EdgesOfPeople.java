@@ -110,8 +110,12 @@ final class EdgesOfPeople extends Edge {
 
     private static void layingAtFirst() {
         Doc.says("THE LAYING: for each CHEST the two who hold its keys (a PAIR), or nobody (at first).");
-        TwoKeys x = made(plain(5, 4));
-        for (int chest = 0; chest < 4; chest++) due("at first", x.chestTold(chest, 4), NONE);
+        TwoKeys x = new TwoKeys();
+        for (int chest = 0; chest < 4; chest++) {
+            x.chest(0, 0);
+            due("at first", x.chestTold(chest, 4), NONE);
+        }
+        due("nobody has keys", x.lawful(2), 0);
         x.lay(2, 0, 1);
         for (int chest = 0; chest < 4; chest++) due("of each its own", x.chestTold(chest, 4), chest == 2 ? 0 : NONE);
     }
@@ -149,7 +153,7 @@ final class EdgesOfPeople extends Edge {
         due("STATE", TwoKeys.STATE, -3);
         due("FULL", TwoKeys.FULL, -4);
         refused(LIVED, "people(7)", x -> x.people(7), -2);
-        refused(STUCK, "back()", x -> x.back(), -3);
+        refused(STUCK, "move()", x -> x.move(), -3);
         refused(CROWDED, "chest(0, 0)", x -> x.chest(0, 0), -4);
         Doc.says("the host's: -11 nothing where something is asked, -12 a place outside, -13 a thing of another sort or KIND, "
             + "-14 a size below 0.");
@@ -322,6 +326,7 @@ final class EdgesOfPeople extends Edge {
         range(LIVED, "chest what", (x, what) -> x.chest(0, what), 0, 999, BAD);
         range(NEW, "chest what", (x, what) -> x.chest(5, what), 0, 999, BAD);
         refused(CROWDED, "a fifth", x -> x.chest(0, 0), FULL);
+        refused(LIVED.then(x -> { x.chest(0, 0); x.chest(0, 0); }), "a fifth", x -> x.chest(0, 0), FULL);
         refused(CROWDED, "a fifth", x -> x.chest(5, 999), FULL);
         refused(CROWDED, "BAD is named ahead of FULL", x -> x.chest(6, 0), BAD);
         refused(CROWDED, "BAD is named ahead of FULL", x -> x.chest(-1, 0), BAD);

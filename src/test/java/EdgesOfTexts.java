@@ -422,6 +422,32 @@ final class EdgesOfTexts extends Edge {
         }
         due("full", read(x, PLAIN_TEXT), FULL);
         due("texts", x.count(4), 6);
+        textsBehindOthers();
+    }
+
+    /** What was read ahead of a text, with a fault or without, is none of it. */
+    private static void textsBehindOthers() {
+        TwoKeys x = made(plain(3, 1));
+        x.lay(0, 0, 1);
+        due("a fault, five being open", read(x, "may (((((1"), -110);
+        due("five may be open again", read(x, "may (((((1)))));costs 7;fears -----1+50;"), 1);
+        due("a fault, with a whole part", read(x, "may 0;costs 0;fears"), -119);
+        due("another", read(x, "may other<2;costs 8;fears 60;"), 2);
+        due("another", read(x, "may not other<2;costs 9+month;fears 71;"), 3);
+        int[] fears = {0, 49, 60, 71};
+        int[] mays = {7, 7, 1, 6};
+        for (int text = 3; text >= 0; text--) {
+            x.force(text);
+            due("fears of text " + text, x.worth(0), fears[text]);
+            due("may of text " + text, x.mayLay(0, 0) + 2 * x.mayLay(0, 1) + 4 * x.mayLay(0, 2), mays[text]);
+        }
+        for (int b = 1; b < 3; b++) for (int a = 0; a < b; a++) x.speak(a, b, 0);
+        x.set(0, 0, 12);
+        int[] costs = {1, 7, 8, 21};
+        for (int text = 0; text < 4; text++) {
+            x.force(text);
+            due("costs of text " + text, x.quarrel(1), costs[text]);
+        }
     }
 
     private static void names() {
@@ -582,6 +608,10 @@ final class EdgesOfTexts extends Edge {
         due("it grows on", x.feed(32), PLAIN_TEXT.length() + 1);
         due("the greatest fault: 160 blanks", read(new TwoKeys(), " ".repeat(160)), -260);
         refused(CROWDED, "no room", y -> y.text(), FULL);
+        refused(LIVED.then(y -> {
+            y.text();
+            for (int i = 0; i < 4; i++) read(y, PLAIN_TEXT);
+        }), "no room, the tape being empty", y -> y.text(), FULL);
         Town noRoom = y -> {
             for (int i = 0; i < 5; i++) read(y, PLAIN_TEXT);
         };

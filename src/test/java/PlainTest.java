@@ -8,7 +8,9 @@ import java.util.Random;
 
 /** Runs of calls, drawn with fixed seeds, on TwoKeys and on PlainKeys: both must answer the same. */
 public final class PlainTest {
-    private static final int RUNS = Integer.getInteger("runs", 500);
+    private static final int RUNS = Integer.getInteger("runs", 900);
+    /** What an object answers behind its 512th call is free. */
+    private static final int MOST_CALLS = 512, CALLS_OF_WHOLE = 200, CALLS_OF_STEP = 40;
     private static final long FIRST_SEED = Long.getLong("seed", 20261118L);
     private static final int[] EDGES =
         {-1, 0, 1, 2, 12, 13, 14, 15, 16, 31, 32, 40, 41, 63, 64, 128, 255, 256, 65535, 65536,
@@ -99,10 +101,16 @@ public final class PlainTest {
         for (int chest = 0; chest < chests; chest++) {
             call("lay", chest, upTo(n - 1), upTo(n - 1));
         }
-        for (int i = 0; i < 120 && isRight; i++) {
+        for (int i = 0; i < 120 && isRight && callsLeft() >= CALLS_OF_STEP; i++) {
             step();
         }
         whole();
+        Check.holds("run " + run + " has " + told.size() + " calls", told.size() <= MOST_CALLS);
+    }
+
+    /** How many there may be ahead of whole(). */
+    private int callsLeft() {
+        return MOST_CALLS - CALLS_OF_WHOLE - told.size();
     }
 
     /** Nearly all speak: there are seldom layings, so that quarrels matter. */
@@ -231,11 +239,11 @@ public final class PlainTest {
     }
 
     private void text() {
-        while (call("count", 5) > 0 && random.nextInt(3) > 0) {
+        if (call("count", 5) > 0 && random.nextInt(3) > 0) {
             call("text");
-            if (call("count", 4) == 6) {
-                return;
-            }
+        }
+        if (call("count", 4) == 6) {
+            return;
         }
         StringBuilder s = new StringBuilder();
         for (String key : new String[] {"may", "costs", "fears"}) {
@@ -246,7 +254,7 @@ public final class PlainTest {
             either(s, 2);
             s.append(';');
         }
-        if (s.length() > 160 && random.nextInt(5) > 0) {
+        if (s.length() > 160 && random.nextInt(5) > 0 || s.length() + CALLS_OF_STEP > callsLeft()) {
             return;
         }
         if (random.nextInt(3) == 0) {
