@@ -289,6 +289,7 @@ final class EdgesOfLayings extends Edge {
             refused(STUCK, "BAD is named ahead of STATE", x -> x.best(s, 2), BAD);
             refused(STUCK, "BAD is named ahead of STATE", x -> x.best(s, -2), BAD);
         }
+        refused(LIVED.then(x -> { x.chest(0, 0); x.set(1, 0, 1); }), "six hands of five people", x -> x.best(0, NONE), STATE);
         refused(STUCK, "BAD is named ahead of STATE", x -> x.best(2, NONE), BAD);
         refused(STUCK, "BAD is named ahead of STATE", x -> x.best(-1, 0), BAD);
         asks(LIVED, "chest 1 must move, one key", x -> x.best(0, NONE), 1);

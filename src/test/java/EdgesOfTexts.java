@@ -62,6 +62,12 @@ final class EdgesOfTexts extends Edge {
         good(blanks + text + ";");
         fault(text + blanks + " ", 160);
         fault(text + blanks + "?", 159);
+        String cut = "may 1;costs 1;fears";
+        fault(cut + " ".repeat(159 - cut.length()) + "1", 160);
+        fault(cut + " ".repeat(156 - cut.length()) + "1234", 160);
+        fault(cut + " ".repeat(155 - cut.length()) + "12345", 155);
+        fault(cut + " ".repeat(157 - cut.length()) + "one", 160);
+        fault(cut + " ".repeat(159 - cut.length()) + "x", 159);
         TwoKeys x = made(FULL_TAPE);
         due("full", x.feed(';'), FULL);
         due("160 bytes are read", x.text(), 1);
@@ -434,6 +440,10 @@ final class EdgesOfTexts extends Edge {
         due("a fault, with a whole part", read(x, "may 0;costs 0;fears"), -119);
         due("another", read(x, "may other<2;costs 8;fears 60;"), 2);
         due("another", read(x, "may not other<2;costs 9+month;fears 71;"), 3);
+        due("digits of a longer tape", read(x, "may 1;costs 12345678"), -112);
+        due("are none of a shorter one", read(x, "may 1;costs 1"), -113);
+        due("letters of a longer tape", read(x, "may 1;costs onexyz"), -112);
+        due("are none of a shorter one", read(x, "may 1;costs one"), -115);
         int[] fears = {0, 49, 60, 71};
         int[] mays = {7, 7, 1, 6};
         for (int text = 3; text >= 0; text--) {
