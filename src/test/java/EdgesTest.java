@@ -3,6 +3,7 @@ public final class EdgesTest {
     private EdgesTest() { }
 
     public static void main(String[] args) {
+        Story.run();
         EdgesOfPeople.run();
         EdgesOfTexts.run();
         EdgesOfLayings.run();

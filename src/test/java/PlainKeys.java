@@ -330,7 +330,7 @@ final class PlainKeys {
             int[] keys = new int[6];
             int rest = k;
             boolean good = true;
-            for (int c = size - 1; c >= 0; c--) {
+            for (int c = size - 1; c >= 0 && good; c--) {
                 row[c] = rest % all.size();
                 rest /= all.size();
                 good &= may[c][row[c]];
@@ -457,10 +457,10 @@ final class PlainKeys {
         return BAD;
     }
 
-    private int moved(int[] row) {
+    private int moved(int[] row, List<int[]> pairs) {
         int k = 0;
         for (int c = 0; c < row.length; c++) {
-            int[] old = state.laying.get(c), next = pairs(state.n).get(row[c]);
+            int[] old = state.laying.get(c), next = pairs.get(row[c]);
             if (old == null) continue;
             k += 2;
             for (int p : next) if (p == old[0] || p == old[1]) k--;
@@ -468,18 +468,22 @@ final class PlainKeys {
         return k;
     }
 
-    private int bands(int[] row) {
-        int k = 0;
-        for (int pair : row) k += bandOf(state, pairs(state.n).get(pair));
-        return k;
-    }
-
+    /** The best row and, behind it, how many keys or how much. */
     private int[] bestRow(int sort, List<int[]> rows) {
-        int[] best = rows.get(0);
+        List<int[]> pairs = pairs(state.n);
+        int[] bands = pairs.stream().mapToInt(two -> bandOf(state, two)).toArray();
+        int[] best = null;
+        int bestValue = 0;
         for (int[] row : rows) {
-            if (sort == 0 ? moved(row) < moved(best) : bands(row) > bands(best)) best = row;
+            int value = sort == 0 ? moved(row, pairs) : Arrays.stream(row).map(pair -> bands[pair]).sum();
+            if (best == null || (sort == 0 ? value < bestValue : value > bestValue)) {
+                best = row;
+                bestValue = value;
+            }
         }
-        return best;
+        int[] both = Arrays.copyOf(best, best.length + 1);
+        both[best.length] = bestValue;
+        return both;
     }
 
     int best(int sort, int chest) {
@@ -487,16 +491,15 @@ final class PlainKeys {
         List<int[]> rows = layings(state);
         if (rows.isEmpty()) return STATE;
         int[] best = bestRow(sort, rows);
-        return chest != NONE ? best[chest] : sort == 0 ? moved(best) : bands(best);
+        return chest != NONE ? best[chest] : best[chests.size()];
     }
 
     int move() {
         List<int[]> rows = layings(state);
         if (rows.isEmpty()) return STATE;
         int[] best = bestRow(0, rows);
-        int k = moved(best);
-        for (int c = 0; c < best.length; c++) state.laying.set(c, pairs(state.n).get(best[c]));
-        return k;
+        for (int c = 0; c < chests.size(); c++) state.laying.set(c, pairs(state.n).get(best[c]));
+        return best[chests.size()];
     }
 
     int quarrel(int what) {

@@ -101,11 +101,30 @@ public final class PlainTest {
         for (int chest = 0; chest < chests; chest++) {
             call("lay", chest, upTo(n - 1), upTo(n - 1));
         }
-        for (int i = 0; i < 120 && isRight && callsLeft() >= CALLS_OF_STEP; i++) {
+        while (isRight && callsLeft() >= CALLS_OF_STEP) {
             step();
         }
         whole();
-        Check.holds("run " + run + " has " + told.size() + " calls", told.size() <= MOST_CALLS);
+        while (told.size() < MOST_CALLS) {
+            question();
+        }
+        Check.holds("run " + run + " has " + told.size() + " calls", told.size() == MOST_CALLS);
+    }
+
+    /** What is left of the 512 calls, each of which must answer as the first ones do. */
+    private void question() {
+        int chests = plain.count(1);
+        switch (random.nextInt(9)) {
+            case 0: call("lawful", upTo(2)); break;
+            case 1: call("best", upTo(1), upTo(chests) - 1); break;
+            case 2: call("quarrel", upTo(1)); break;
+            case 3: call("peace", upTo(1)); break;
+            case 4: call("in", upTo(12)); break;
+            case 5: call("worth", upTo(1)); break;
+            case 6: call("opened", upTo((1 << n) - 1)); break;
+            case 7: call("band", upTo((1 << chests) - 1), upTo(2)); break;
+            default: call("judge", upTo(3)); break;
+        }
     }
 
     /** How many there may be ahead of whole(). */
