@@ -986,7 +986,9 @@ public final class TwoKeys {
             if (place >= size) {
                 kind = END_TOKEN;
             } else if (isLetter(bytes[place])) {
-                readWord();
+                passWord();
+                value = nameRead();
+                kind = value < 0 ? NAME_TOKEN : keyRead();
             } else if (isDigit(bytes[place])) {
                 readNumber();
             } else {
@@ -1017,12 +1019,10 @@ public final class TwoKeys {
             kind = behind - place > MOST_DIGITS ? WRONG_TOKEN : NUMBER_TOKEN;
         }
 
-        private void readWord() {
+        private void passWord() {
             while (behind < size && isLetter(bytes[behind])) {
                 behind++;
             }
-            value = nameRead();
-            kind = value < 0 ? NAME_TOKEN : keyRead();
         }
 
         private int nameRead() {
@@ -1076,22 +1076,19 @@ public final class TwoKeys {
             open = 0;
             fault = NONE;
             tape.rewind();
-            readPart(MAY_PART, MAY_KEY);
-            readPart(COSTS_PART, COSTS_KEY);
-            readPart(FEARS_PART, FEARS_KEY);
+            // the keys of the three parts are numbered one behind the other, as the parts are
+            for (int part = 0; part < PARTS; part++) {
+                need(MAY_KEY + part);
+                readEither();
+                need(';');
+                ends[part] = size;
+            }
             need(END_TOKEN);
             return fault;
         }
 
         Text written() {
             return new Text(Arrays.copyOf(code, size), ends[MAY_PART], ends[COSTS_PART]);
-        }
-
-        private void readPart(int part, int key) {
-            need(key);
-            readEither();
-            need(';');
-            ends[part] = size;
         }
 
         private void readEither() {
@@ -1190,7 +1187,9 @@ public final class TwoKeys {
         }
 
         private void need(int kind) {
-            if (!takes(kind)) {
+            if (fault == NONE && tape.kind == kind) {
+                tape.advance();
+            } else {
                 refuse();
             }
         }
